@@ -512,7 +512,6 @@ public final class ApartCost {
             set = acts;
             stations = n;
             setLimits();
-            Arrays.fill(told, NONE);
             Arrays.fill(loads, 0L);
             tryFrom(this, 0, 0L);
             return longest;

@@ -8,6 +8,7 @@ public final class RowTest {
         nodes();
         firstOfTheBest();
         aBeginningComesFirst();
+        nothingBeforeRun();
         whatIsInTheRow();
         partFreedTwice();
         whatWasFoundStays();
@@ -51,6 +52,8 @@ public final class RowTest {
         x.act(1, 0, 0, 1);
         x.worth(1, 5);
         CHECK.due("run(4) of five states", x.run(4), -1);
+        CHECK.due("run(4): the row before stays", x.step(0), -1);
+        CHECK.due("run(4): the row before stays", x.stops(11), 11);
         CHECK.due("run(5) of five states", x.run(5), 1);
         CHECK.due("run(most)", x.run(Long.MAX_VALUE), 1);
         CHECK.due("run(2^32)", x.run(1L << 32), 1);
@@ -88,6 +91,21 @@ public final class RowTest {
         x.worth(0, 4);
         x.run(99);
         CHECK.dueRow("beginning: without the one that loses", x, 1);
+    }
+
+    private static void nothingBeforeRun() {
+        ApartCost x = new ApartCost();
+        x.act(0, 0, 0, 1);
+        x.act(1, 0, 0, 1);
+        x.worth(0, 10);
+        x.rest(4095, 10);
+        CHECK.due("not run: a refused run", x.run(4), -1);
+        CHECK.due("not run: step(0)", x.step(0), -1);
+        CHECK.due("not run: stops(0)", x.stops(0), -1);
+        CHECK.due("not run: other(0)", x.other(0), -1);
+        CHECK.due("not run: gain(-1)", x.gain(-1), 0);
+        CHECK.due("not run: gain(0)", x.gain(0), 0);
+        CHECK.due("not run: proved()", x.proved(), false);
     }
 
     private static void whatIsInTheRow() {
