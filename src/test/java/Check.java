@@ -30,6 +30,10 @@ final class Check {
         }
     }
 
+    int asked() {
+        return asked;
+    }
+
     boolean allRight() {
         return wrong == 0;
     }

@@ -5,11 +5,16 @@ import java.util.Random;
 
 /** Long runs of calls, right and wrong ones, each answer compared with that of Plain. */
 public final class CompareTest {
-    private static final int RUNS = 600;
-    private static final int CALLS = 120;
-    private static final int FULL_RUNS = 60;
+    private static final int RUNS = 3000;
+    private static final int FULL_RUNS = 100;
+    /** What later calls answer is free. */
+    private static final int MOST_CALLS = 512;
+    /** So many calls look at all that was found, and so many at the most make and look at one more. */
+    private static final int CALLS_OF_A_LOOK = 71;
+    private static final int CALLS_OF_A_STEP = 7;
 
     private final Check check;
+    private final int askedBefore;
     private final Random random;
     private final int mostActs;
     /** Small cents make rows of the same gain, and ways of the same longest. */
@@ -26,6 +31,7 @@ public final class CompareTest {
 
     private CompareTest(Check check, int seed, int mostActs) {
         this.check = check;
+        this.askedBefore = check.asked();
         this.random = new Random(seed);
         this.mostActs = mostActs;
         this.mostCents = new int[] {3, 12, 1000, 1000000}[random.nextInt(4)];
@@ -38,14 +44,21 @@ public final class CompareTest {
         Check check = new Check();
         for (int seed = 1; seed <= RUNS && check.allRight(); seed++) {
             CompareTest test = new CompareTest(check, seed, 5);
-            for (int call = 0; call < CALLS && check.allRight(); call++) {
+            while (test.callsLeft() >= CALLS_OF_A_STEP + CALLS_OF_A_LOOK && check.allRight()) {
                 test.anyCall();
+                test.lookAt(test.random.nextInt(14) - 1);
             }
+            test.lookAtAll();
         }
         for (int seed = 1; seed <= FULL_RUNS && check.allRight(); seed++) {
             new CompareTest(check, RUNS + seed, 10).fullRun();
         }
         check.end();
+    }
+
+    /** Each answer that was compared is one of a call. */
+    private int callsLeft() {
+        return MOST_CALLS - (check.asked() - askedBefore);
     }
 
     private void anyCall() {
@@ -65,7 +78,6 @@ public final class CompareTest {
             case 17 -> test(aPart(), aboutCents(0));
             default -> stations(about(1, 4));
         }
-        lookAtAll();
     }
 
     /** Ten acts, most of which need others, so that Plain comes to an end. */
@@ -78,22 +90,27 @@ public final class CompareTest {
             change(about(0, 5), about(0, 5), random.nextInt(mostCents + 1));
             turn(about(0, 5), about(0, 5), random.nextInt(mostCents + 1));
         }
-        for (int k = 0; k < 60 && x.states() > 200; k++) {
+        for (int k = 0; k < 60 && plain.states() > 200; k++) {
             before(random.nextInt(10), random.nextInt(10));
         }
         sure(aPart(), random.nextInt(6), 1 + random.nextInt(12));
         check.due(name + "states()", x.states(), plain.states());
         run(plain.states() - 1);
         run(plain.states());
+        lookAtAll();
         for (int n = 1; n <= 4; n++) {
             stations(n);
-            lookAtAll();
+            lookAtStations();
         }
         for (int k = 0; k < 3; k++) {
             before(random.nextInt(10), random.nextInt(10));
             stations(2 + random.nextInt(3));
+            lookAtStations();
+        }
+        if (callsLeft() >= CALLS_OF_A_LOOK) {
             lookAtAll();
         }
+        check.due(name + "calls left", callsLeft() >= 0, true);
     }
 
     /** A number of a range, now and then just beside it. */
@@ -251,7 +268,12 @@ public final class CompareTest {
     }
 
     private void lookAtAll() {
-        check.due(name + "proved()", x.proved(), current);
+        for (int k = -1; k <= 12; k++) {
+            lookAt(k);
+        }
+    }
+
+    private void lookAt(int k) {
         List<Integer> stops = new ArrayList<>();
         List<Integer> others = new ArrayList<>();
         for (int part = 0; row != null && part < Plain.PARTS; part++) {
@@ -264,13 +286,20 @@ public final class CompareTest {
                 others.add(act);
             }
         }
-        for (int k = -1; k <= 12; k++) {
-            check.due(name + "step(" + k + ")", x.step(k), of(row, k));
-            check.due(name + "stops(" + k + ")", x.stops(k), of(stops, k));
-            check.due(name + "other(" + k + ")", x.other(k), of(others, k));
-            check.due(name + "station(" + k + ")", x.station(k), in(k, 0, 9) ? shared[k] : -1);
-            long due = row == null || k == 12 ? 0 : k == -1 ? gain : brought[k];
-            check.due(name + "gain(" + k + ")", x.gain(k), due);
+        check.due(name + "step(" + k + ")", x.step(k), of(row, k));
+        check.due(name + "stops(" + k + ")", x.stops(k), of(stops, k));
+        check.due(name + "other(" + k + ")", x.other(k), of(others, k));
+        check.due(name + "station(" + k + ")", x.station(k), in(k, 0, 9) ? shared[k] : -1);
+        long due = row == null || k == 12 ? 0 : k == -1 ? gain : brought[k];
+        check.due(name + "gain(" + k + ")", x.gain(k), due);
+        if (k < 0) {
+            check.due(name + "proved()", x.proved(), current);
+        }
+    }
+
+    private void lookAtStations() {
+        for (int act = 0; act < 10; act++) {
+            check.due(name + "station(" + act + ")", x.station(act), shared[act]);
         }
     }
 
