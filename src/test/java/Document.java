@@ -28,13 +28,26 @@ final class Document {
 
     /** Whether words stand under a promise, or under the Terms. */
     boolean has(int promise, String words) {
-        return text.isEmpty() || section(promise).contains(words);
+        return !isRead() || section(promise).contains(words);
     }
 
-    private String section(int promise) {
+    /** The public face, as Java. */
+    String face() {
+        String fence = "```";
+        int from = text.indexOf(fence + "java ");
+        int to = from < 0 ? -1 : text.indexOf(fence, from + fence.length());
+        return to < 0 ? "" : text.substring(from, to);
+    }
+
+    boolean isRead() {
+        return !text.isEmpty();
+    }
+
+    /** What stands under a promise, or under the Terms, behind the head's own words. */
+    String section(int promise) {
         String head = "## " + nameOf(promise) + (promise > Edges.TERMS ? ": " : " ");
         int from = text.indexOf(head);
         int to = from < 0 ? -1 : text.indexOf("## ", from + head.length());
-        return to < 0 ? "" : text.substring(from, to);
+        return to < 0 ? "" : text.substring(from + head.length(), to);
     }
 }

@@ -5,6 +5,8 @@ import java.lang.reflect.Method;
 import java.lang.reflect.Modifier;
 import java.util.Arrays;
 import java.util.TreeSet;
+import java.util.regex.Matcher;
+import java.util.regex.Pattern;
 
 /** The public face: just what the document tells, and nothing else that can be seen from outside. */
 public final class FaceTest {
@@ -15,17 +17,66 @@ public final class FaceTest {
         "int step(int)", "int stops(int)", "int other(int)", "long gain(int)", "boolean proved()",
         "long bound()", "int test(int, long)", "int stations(int)", "int station(int)",
     };
+    private static final Pattern TOLD_METHOD = Pattern.compile("public (\\w+) (\\w+)\\(([^)]*)\\);");
+    private static final String[] OTHER_FACE = {
+        "public final class ApartCost {", "public static final int NONE = -1;", "public ApartCost();",
+    };
 
     public static void main(String[] args) {
         Check check = new Check();
+        asTheDocumentTells(check);
+        theClass(check);
         methods(check);
         fields(check);
+        none(check);
         constructors(check);
-        check.due("the class is public and final",
-            Modifier.isPublic(ApartCost.class.getModifiers()) && Modifier.isFinal(ApartCost.class.getModifiers()),
-            true);
-        check.due("NONE", ApartCost.NONE, -1);
+        nestedClasses(check);
         check.end();
+    }
+
+    private static void asTheDocumentTells(Check check) {
+        Document document = new Document();
+        if (!document.isRead()) {
+            return;
+        }
+        TreeSet<String> told = new TreeSet<>();
+        Matcher matcher = TOLD_METHOD.matcher(document.face());
+        while (matcher.find()) {
+            String types = matcher.group(3).replaceAll("(\\w+) \\w+", "$1");
+            told.add(matcher.group(1) + " " + matcher.group(2) + "(" + types + ")");
+        }
+        check.due("the document's methods: " + told, told.equals(new TreeSet<>(Arrays.asList(METHODS))), true);
+        for (String words : OTHER_FACE) {
+            check.due("the document's face has " + words, document.face().contains(words), true);
+        }
+    }
+
+    private static void theClass(Check check) {
+        int modifiers = ApartCost.class.getModifiers();
+        check.due("the class is public and final", Modifier.isPublic(modifiers) && Modifier.isFinal(modifiers), true);
+        check.due("it stands for itself", ApartCost.class.getSuperclass() == Object.class, true);
+        check.due("interfaces of it", ApartCost.class.getInterfaces().length, 0);
+    }
+
+    private static void none(Check check) {
+        check.due("NONE", ApartCost.NONE, -1);
+        for (Field field : ApartCost.class.getDeclaredFields()) {
+            if (field.getName().equals("NONE")) {
+                int modifiers = field.getModifiers();
+                check.due("NONE is public", Modifier.isPublic(modifiers), true);
+                check.due("NONE is static", Modifier.isStatic(modifiers), true);
+                check.due("NONE is final", Modifier.isFinal(modifiers), true);
+                check.due("NONE is an int", field.getType() == int.class, true);
+            }
+        }
+    }
+
+    private static void nestedClasses(Check check) {
+        for (Class<?> nested : ApartCost.class.getDeclaredClasses()) {
+            int modifiers = nested.getModifiers();
+            check.due(nested + " is hidden", Modifier.isPublic(modifiers) || Modifier.isProtected(modifiers), false);
+            check.due(nested + " is static", Modifier.isStatic(modifiers), true);
+        }
     }
 
     private static void methods(Check check) {
